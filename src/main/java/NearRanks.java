@@ -42,7 +42,10 @@ public final class NearRanks {
     public int append(long value) throws IllegalStateException {
         requireRoom();
         history.save(row);
-        return appendValue(value);
+        row.insertElement(row.size, value);
+        int distance = row.distance(row.size - 1);
+        endChange();
+        return distance;
     }
 
     /** Inserts a value at a place and returns its number. */
@@ -53,21 +56,30 @@ public final class NearRanks {
         }
         requireRoom();
         history.save(row);
-        return insertValue(place, value);
+        int number = row.came;
+        row.insertElement(place, value);
+        endChange();
+        return number;
     }
 
     /** Removes the element at a place and returns its number. */
     public int removeAt(int place) throws IndexOutOfBoundsException {
         requirePlace(place);
         history.save(row);
-        return removeElement(place);
+        int number = row.numbers[place];
+        row.takeOut(place);
+        endChange();
+        return number;
     }
 
     /** Gives the element at a place another value and returns the one that it had. */
     public long setValue(int place, long value) throws IndexOutOfBoundsException {
         requirePlace(place);
         history.save(row);
-        return changeValue(place, value);
+        long old = row.values[place];
+        row.changeValue(place, value);
+        endChange();
+        return old;
     }
 
     /** Swaps the elements at a place and at the next one; returns what inversions come by it. */
@@ -76,21 +88,26 @@ public final class NearRanks {
             throw new IndexOutOfBoundsException("no such place, or no next one");
         }
         history.save(row);
-        return swapWithNext(place);
+        int more = row.inversionsBySwap(place);
+        row.swapElements(place);
+        endChange();
+        return more;
     }
 
     /** Sets the bound and returns how many elements are broken then, ahead of any mending. */
     public int setBound(int bound) throws IllegalArgumentException {
         requireBound(bound);
         history.save(row);
-        return changeBound(bound);
+        row.changeBound(bound);
+        int count = row.brokenCount();
+        endChange();
+        return count;
     }
 
     /** Sets the order and returns the number of inversions then, ahead of any mending. */
     public int setOrder(boolean falling) {
         history.save(row);
-        row.falling = falling;
-        row.refreshRanks();
+        row.changeOrder(falling);
         int inversions = row.inversions();
         endChange();
         return inversions;
@@ -195,7 +212,7 @@ public final class NearRanks {
     public int stepsFor(int bound) throws IllegalArgumentException {
         requireBound(bound);
         trial.copyFrom(row);
-        trial.bound = bound;
+        trial.changeBound(bound);
         return trial.mendFully();
     }
 
@@ -273,6 +290,7 @@ public final class NearRanks {
         commands.rewind();
         int done = 0;
         while (done < MOST_BYTES && commands.hasMore() && commands.readCommand() && carryOut()) {
+            endChange();
             done++;
         }
         return done;
@@ -317,59 +335,9 @@ public final class NearRanks {
     }
 
     private void requireBound(int bound) {
-        if (!isBound(bound)) {
+        if (!row.isBound(bound)) {
             throw new IllegalArgumentException("no such bound");
         }
-    }
-
-    private static boolean isBound(int bound) {
-        return bound >= 0 && bound <= MOST_BOUND;
-    }
-
-    // The changes below save no state and want arguments that were looked at: the calls of the
-    // face and the commands of a text share them.
-
-    private int appendValue(long value) {
-        row.insertElement(row.size, value);
-        int distance = row.distance(row.size - 1);
-        endChange();
-        return distance;
-    }
-
-    private int insertValue(int place, long value) {
-        int number = row.came;
-        row.insertElement(place, value);
-        endChange();
-        return number;
-    }
-
-    private int removeElement(int place) {
-        int number = row.numbers[place];
-        row.takeOut(place);
-        endChange();
-        return number;
-    }
-
-    private long changeValue(int place, long value) {
-        long old = row.values[place];
-        row.values[place] = value;
-        row.refreshRanks();
-        endChange();
-        return old;
-    }
-
-    private int swapWithNext(int place) {
-        int more = row.inversionsBySwap(place);
-        row.swapElements(place);
-        endChange();
-        return more;
-    }
-
-    private int changeBound(int bound) {
-        row.bound = bound;
-        int count = row.brokenCount();
-        endChange();
-        return count;
     }
 
     private int endChange() {
@@ -379,50 +347,24 @@ public final class NearRanks {
     /** Carries out the command that was read last; false, and nothing done, if it would throw. */
     private boolean carryOut() {
         Word word = commands.word;
-        int number = commands.number;
-        if (word == null || !canCarryOut(word, number)) {
+        if (word == null) {
             return false;
         }
         switch (word) {
             case ADD:
-                appendValue(commands.value);
-                break;
+                return row.insertElement(row.size, commands.value);
             case PUT:
-                insertValue(number, commands.value);
-                break;
+                return row.insertElement(commands.number, commands.value);
             case DEL:
-                removeElement(number);
-                break;
+                return row.takeOut(commands.number);
             case SET:
-                changeValue(number, commands.value);
-                break;
+                return row.changeValue(commands.number, commands.value);
             case SWAP:
-                swapWithNext(number);
-                break;
+                return row.swapElements(commands.number);
             case BOUND:
-                changeBound(number);
-                break;
+                return row.changeBound(commands.number);
             default:
                 row.mendFully();
-                break;
-        }
-        return true;
-    }
-
-    private boolean canCarryOut(Word word, int number) {
-        switch (word) {
-            case ADD:
-                return row.hasRoom();
-            case PUT:
-                return row.canOpen(number) && row.hasRoom();
-            case DEL:
-            case SET:
-                return row.isPlace(number);
-            case SWAP:
-                return row.hasNext(number);
-            case BOUND:
-                return isBound(number);
-            default:
                 return true;
         }
     }
@@ -518,6 +460,10 @@ public final class NearRanks {
             return place >= 0 && place <= size;
         }
 
+        boolean isBound(int wanted) {
+            return wanted >= 0 && wanted <= MOST_BOUND;
+        }
+
         boolean isAhead(long value, long other) {
             return falling ? value > other : value < other;
         }
@@ -534,9 +480,11 @@ public final class NearRanks {
             return hasNext(place) && isAhead(values[place + 1], values[place]);
         }
 
-        void insertElement(int place, long value) {
+        // A change that cannot be answers false and does nothing: a run of commands ends there.
+
+        boolean insertElement(int place, long value) {
             if (!hasRoom() || !canOpen(place)) {
-                return;
+                return false;
             }
             for (int to = size; to > place; to--) {
                 values[to] = values[to - 1];
@@ -547,11 +495,12 @@ public final class NearRanks {
             came++;
             size++;
             refreshRanks();
+            return true;
         }
 
-        void takeOut(int place) {
+        boolean takeOut(int place) {
             if (!isPlace(place)) {
-                return;
+                return false;
             }
             size--;
             for (int to = place; to < size; to++) {
@@ -559,11 +508,34 @@ public final class NearRanks {
                 numbers[to] = numbers[to + 1];
             }
             refreshRanks();
+            return true;
         }
 
-        void swapElements(int place) {
+        boolean changeValue(int place, long value) {
+            if (!isPlace(place)) {
+                return false;
+            }
+            values[place] = value;
+            refreshRanks();
+            return true;
+        }
+
+        boolean changeBound(int wanted) {
+            if (!isBound(wanted)) {
+                return false;
+            }
+            bound = wanted;
+            return true;
+        }
+
+        void changeOrder(boolean wanted) {
+            falling = wanted;
+            refreshRanks();
+        }
+
+        boolean swapElements(int place) {
             if (!hasNext(place)) {
-                return;
+                return false;
             }
             int next = place + 1;
             int number = numbers[place];
@@ -578,6 +550,7 @@ public final class NearRanks {
                 ranks[place] = ranks[next];
                 ranks[next] = rank;
             }
+            return true;
         }
 
         int inversionsBySwap(int place) {
@@ -587,7 +560,7 @@ public final class NearRanks {
             return isFall(place) ? -1 : 1;
         }
 
-        void refreshRanks() {
+        private void refreshRanks() {
             for (int place = 0; place < size; place++) {
                 ranks[place] = countRank(place);
             }

@@ -82,6 +82,9 @@ public final class ChangesTest {
         Kit.due("the values", Kit.valuesOf(x), "4 7");
         Kit.due("the numbers", Kit.elementsOf(x, 0), "0 3");
         Kit.undoable("removeAt", x, () -> x.removeAt(0));
+        NearRanks ranks = Kit.rowOf(5, 1, 3, 3);
+        ranks.removeAt(1);
+        Kit.due("the ranks", Kit.elementsOf(ranks, 1), "2 0 1");
         Kit.refused("removeAt(2)", x, INDEX, () -> x.removeAt(2));
         Kit.refused("removeAt(-1)", x, INDEX, () -> x.removeAt(-1));
         Kit.refused("removeAt(greatest)", x, INDEX, () -> x.removeAt(Integer.MAX_VALUE));

@@ -57,6 +57,12 @@ public final class CommandsTest {
         Kit.due("a run saves one state", x.undo(), 0);
         Kit.due("the state after undo()", Kit.stateOf(x), before);
 
+        NearRanks turned = Kit.rowOf(3, 2, 1);
+        Kit.typeText(turned, "bound 0;mend;");
+        Kit.due("runCommands()", turned.runCommands(), 2);
+        Kit.due("the values", Kit.valuesOf(turned), "1 2 3");
+        Kit.due("the steps", turned.whole(7), 3);
+
         NearRanks self = Kit.rowOf(1, 2, 3);
         self.setBound(0);
         self.setSelf(true);
@@ -85,6 +91,9 @@ public final class CommandsTest {
         fault(" ad", 1);
         fault("ad 5;", 0);
         fault("addx 5;", 0);
+        fault("addz 5;", 0);
+        fault("zdd 5;", 0);
+        fault("adda", 0);
         fault("add", 3);
         fault("add ", 4);
         fault("add;", 3);
