@@ -1,12 +1,21 @@
 import java.util.Objects;
 import java.util.StringJoiner;
+import java.util.function.Consumer;
+import java.util.function.Supplier;
 
 /** What the tests share: telling wrong answers, and making and telling of rows. */
 final class Kit {
+    private static final int MOST_SAVED = 4;
     private static int right = 0;
     private static int wrong = 0;
+    private static String sentence = "";
 
     private Kit() {
+    }
+
+    /** Names the sentence of the document that the answers from here on are about. */
+    static void about(String words) {
+        sentence = "[" + words + "] ";
     }
 
     static void due(String call, long got, long want) {
@@ -18,7 +27,7 @@ final class Kit {
             right++;
         } else {
             wrong++;
-            System.out.println(call + " answered " + got + ", due is " + want);
+            System.out.println(sentence + call + " answered " + got + ", due is " + want);
         }
     }
 
@@ -42,6 +51,34 @@ final class Kit {
         String before = stateOf(x) + " " + x.digest();
         run.run();
         due("the state after " + call, stateOf(x) + " " + x.digest(), before);
+    }
+
+    /** The call is refused, and neither the row nor any of its saved states tells that it was made. */
+    static void refusedWholly(String call, Class<?> kind, Supplier<NearRanks> make,
+            Consumer<NearRanks> run) {
+        NearRanks x = make.get();
+        due(call + " throws", thrownBy(() -> run.accept(x)), kind.getSimpleName());
+        due("all states after " + call, historyOf(x), historyOf(make.get()));
+    }
+
+    /** The call saves one state, the one from before it, and the oldest of four makes room for it. */
+    static void savesOneState(String call, Supplier<NearRanks> make, Consumer<NearRanks> run) {
+        NearRanks x = make.get();
+        String before = historyOf(make.get());
+        run.accept(x);
+        due("the stack after " + call, x.undo(), MOST_SAVED - 1);
+        String kept = before.substring(0, before.lastIndexOf('\n'));
+        due("the states before " + call, historyOf(x), kept);
+    }
+
+    /** The row and, one after the other, all its saved states, which are taken off by this. */
+    static String historyOf(NearRanks x) {
+        StringJoiner states = new StringJoiner("\n");
+        states.add(stateOf(x));
+        for (int i = 0; i <= MOST_SAVED && thrownBy(x::undo).equals("nothing"); i++) {
+            states.add(stateOf(x));
+        }
+        return states.toString();
     }
 
     static String thrownBy(Runnable run) {
@@ -70,6 +107,23 @@ final class Kit {
         return x;
     }
 
+    /** A full row whose undo stack has room left, so that a state saved wrongly is seen. */
+    static NearRanks fullRow() {
+        NearRanks x = countedTo(32);
+        x.removeAt(0);
+        x.undo();
+        return x;
+    }
+
+    /** A full row of equal values. */
+    static NearRanks fullOf(long value) {
+        NearRanks x = new NearRanks();
+        for (int i = 0; i < 32; i++) {
+            x.append(value);
+        }
+        return x;
+    }
+
     static void typeText(NearRanks x, String text) {
         for (int i = 0; i < text.length(); i++) {
             x.type(text.charAt(i));
@@ -79,6 +133,29 @@ final class Kit {
     static void retype(NearRanks x, String text) {
         x.clearCommands();
         typeText(x, text);
+    }
+
+    /** A run of the text is at fault there, does nothing and saves nothing. */
+    static void fault(String text, int fault) {
+        NearRanks x = rowOf(1);
+        x.undo();
+        typeText(x, text);
+        String before = stateOf(x);
+        due("the run of '" + text + "'", x.runCommands(), -10 - fault);
+        due("the state after '" + text + "'", stateOf(x), before);
+        due("undo() after '" + text + "'", thrownBy(x::undo), "IllegalStateException");
+    }
+
+    /** A run of the text on an empty row carries out so many commands and saves one state. */
+    static void ran(String text, int count, String values) {
+        NearRanks x = rowOf(1);
+        x.undo();
+        typeText(x, text);
+        String before = stateOf(x);
+        due("the run of '" + text + "'", x.runCommands(), count);
+        due("the values after '" + text + "'", valuesOf(x), values);
+        due("undo() after '" + text + "'", x.undo(), 0);
+        due("the state after '" + text + "' and undo()", stateOf(x), before);
     }
 
     static String valuesOf(NearRanks x) {
