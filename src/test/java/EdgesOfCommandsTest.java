@@ -310,7 +310,7 @@ public final class EdgesOfCommandsTest {
     }
 
     private static void stopsAtTheFirstThatWouldThrow() {
-        Kit.about("Until one would throw, which is not thrown; those before it stay done, they count");
+        Kit.about("Until one would throw, which is not thrown; those before stay done");
         Kit.ran("del 0;add 1;", 0, "");
         Kit.ran("add 1;del 1;add 2;", 1, "1");
         Kit.ran("add 1;add 2;del 2;del 0;", 2, "1 2");

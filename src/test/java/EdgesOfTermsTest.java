@@ -130,7 +130,7 @@ public final class EdgesOfTermsTest {
     }
 
     private static void rankOfEqualValues() {
-        Kit.about("The rank is the number ahead, plus the number with the same value at lower places");
+        Kit.about("The rank: the number ahead, plus that with the same value at lower places");
         NearRanks same = Kit.fullOf(7);
         same.setBound(0);
         for (int place = 0; place < 32; place++) {

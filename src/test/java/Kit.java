@@ -53,7 +53,7 @@ final class Kit {
         due("the state after " + call, stateOf(x) + " " + x.digest(), before);
     }
 
-    /** The call is refused, and neither the row nor any of its saved states tells that it was made. */
+    /** The call is refused, and neither the row nor any of its saved states tells of it. */
     static void refusedWholly(String call, Class<?> kind, Supplier<NearRanks> make,
             Consumer<NearRanks> run) {
         NearRanks x = make.get();
@@ -61,7 +61,7 @@ final class Kit {
         due("all states after " + call, historyOf(x), historyOf(make.get()));
     }
 
-    /** The call saves one state, the one from before it, and the oldest of four makes room for it. */
+    /** The call saves the state from before it, and the oldest of four makes room for it. */
     static void savesOneState(String call, Supplier<NearRanks> make, Consumer<NearRanks> run) {
         NearRanks x = make.get();
         String before = historyOf(make.get());
