@@ -161,7 +161,9 @@ public final class NearRanks {
     /** Returns the value with a rank. */
     public long ranked(int rank) throws IndexOutOfBoundsException {
         int place = row.placeOfRank(rank);
-        requirePlace(place);
+        if (!row.isPlace(place)) {
+            throw new IndexOutOfBoundsException("no element with this rank");
+        }
         return row.values[place];
     }
 
